@@ -145,14 +145,12 @@ public final class BoundedCodes {
 
     public int lengths(int i) {
         int end = table.endOfLengths();
-        int number = 0;
         int at = 0;
-        while (at < end) {
+        for (int number = 0; number < SYMBOLS && at < end; number++) {
             int told = numberTold(at, end);
             if (number == i) {
                 return told;
             }
-            number++;
             at += lengthsToldBy(told);
         }
         return NONE;
@@ -167,7 +165,6 @@ public final class BoundedCodes {
         dropAllRanges();
         bits.drop(bits.size);
         wasRead = false;
-        lastValue = 0;
     }
 
     private static void needSymbol(int symbol) {
@@ -284,15 +281,20 @@ public final class BoundedCodes {
                 startShortestFirst();
             }
             for (int symbol = 0; symbol < SYMBOLS; symbol++) {
-                int length = lengthOf[symbol];
-                int code = nextCode[length]++;
-                codeOf[symbol] = rule == INVERTED ? (1 << length) - 1 - code : code;
+                if (lengthOf[symbol] > 0) {
+                    codeOf[symbol] = takeCode(lengthOf[symbol]);
+                }
             }
+        }
+
+        private int takeCode(int length) {
+            int code = nextCode[length];
+            nextCode[length]++;
+            return rule == INVERTED ? (1 << length) - 1 - code : code;
         }
 
         private void startShortestFirst() {
             int code = 0;
-            nextCode[0] = 0;
             for (int length = 1; length <= LONGEST; length++) {
                 code = 2 * code;
                 nextCode[length] = code;
@@ -303,7 +305,6 @@ public final class BoundedCodes {
         /** Bit by bit, half of an odd number is rounded up: in all, one more if a bit taken away was 1. */
         private void startLongestFirst() {
             int code = 0;
-            nextCode[0] = 0;
             for (int length = LONGEST; length >= 1; length--) {
                 code = (code + 1) / 2;
                 nextCode[length] = code;

@@ -6,6 +6,7 @@ public final class MakeTest {
         breaksTies(due);
         makesFew(due);
         makesNone(due);
+        makesAgain(due);
         dropsLengthsAndRanges(due);
         keepsAllElse(due);
         isAsShortAsCanBe(due);
@@ -79,6 +80,19 @@ public final class MakeTest {
         }
     }
 
+    private static void makesAgain(Due due) {
+        BoundedCodes x = Some.withCounts(0, 1, 1, 2, 3, 5, 8, 13);
+        due.answer("make(16)", x.make(16), 7);
+        due.answer("make(3) behind make(16)", x.make(3), 7);
+        due.answer("lengths by 3", Some.lengthsOf(x, 7), "3 3 3 3 3 3 2");
+        x.count(0, 0);
+        x.count(6, 0);
+        due.answer("make(5) of less symbols", x.make(5), 5);
+        due.answer("lengths of less symbols", Some.lengthsOf(x, 7), "0 4 4 3 2 1 0");
+        due.answer("make(16) again", x.make(16), 5);
+        due.answer("lengths again", Some.lengthsOf(x, 7), "0 4 4 3 2 1 0");
+    }
+
     private static void dropsLengthsAndRanges(Due due) {
         BoundedCodes x = new BoundedCodes(0);
         x.given(30, 5);
@@ -100,6 +114,15 @@ public final class MakeTest {
         x.count(1, 0);
         due.answer("make(7) of none", x.make(7), 0);
         due.answer("length(1) of none", x.length(1), 0);
+        for (int symbol = 0; symbol < Some.SYMBOLS; symbol++) {
+            BoundedCodes z = new BoundedCodes(0);
+            z.range(symbol, 500, 4, 1);
+            z.count(symbol, 1);
+            z.make(1);
+            z.feed(0);
+            due.answer("read() of symbol " + symbol + " whose range went", z.read(), symbol);
+            due.answer("last() of symbol " + symbol + " whose range went", z.last(), symbol);
+        }
         BoundedCodes y = Some.overFull();
         y.count(5, 1);
         due.answer("make(2) of an over-full table", y.make(2), 1);
