@@ -1,6 +1,9 @@
-/** Objects in a state that several tests want, and what can be seen of an object without changing it. */
+/** Objects in a state that several tests want, and what is told of them in more than one call. */
 final class Some {
     static final int SYMBOLS = 48;
+
+    /** What is next to a symbol on both sides, and what is far off. */
+    static final int[] NO_SYMBOLS = {-1, 48, 49, -48, 64, 256, Integer.MIN_VALUE, Integer.MAX_VALUE};
 
     /** Symbols 0, 1, .. with these lengths. */
     static BoundedCodes withLengths(int rule, int... lengths) {
@@ -22,6 +25,49 @@ final class Some {
 
     static BoundedCodes overFull() {
         return withLengths(0, 1, 1, 1);
+    }
+
+    /** Has some of all: counts, lengths, ranges, bits that wait, and a symbol that was read. */
+    static BoundedCodes busy() {
+        BoundedCodes x = new BoundedCodes(0);
+        x.count(0, 7);
+        x.count(1, 5);
+        x.count(9, 3);
+        x.count(30, 1);
+        x.range(0, 100, 2, 2);
+        x.range(1, -50, -3, 2);
+        x.given(9, 3);
+        x.given(47, 3);
+        feedAll(x, "0011");
+        x.read();
+        feedAll(x, "01110" + "0010" + "100" + "11" + "101" + "00");
+        return x;
+    }
+
+    /** As many bits wait as can, 16 symbols of 25 bits with their extra ones. */
+    static BoundedCodes fullOfBits() {
+        BoundedCodes x = new BoundedCodes(0);
+        x.range(0, 5, 24, 1);
+        x.range(1, 7, -24, 1);
+        for (int i = 0; i < 400; i++) {
+            x.feed(i * i % 7 % 2);
+        }
+        return x;
+    }
+
+    /** Just over-full, by symbol 47; with counts, ranges, bits that wait, and a symbol that was read. */
+    static BoundedCodes busyOverFull() {
+        BoundedCodes x = new BoundedCodes(0);
+        x.count(0, 7);
+        x.count(47, 5);
+        x.range(0, 100, 2, 1);
+        x.range(1, -50, -3, 2);
+        x.given(9, 2);
+        feedAll(x, "011");
+        x.read();
+        feedAll(x, "10110" + "010" + "11" + "1");
+        x.given(47, 16);
+        return x;
     }
 
     static void feedAll(BoundedCodes x, String bits) {
@@ -65,11 +111,5 @@ final class Some {
             row.append(i == 0 ? "" : " ").append(x.lengths(i));
         }
         return row.toString();
-    }
-
-    /** Some 100 calls' worth of what can be seen, to be compared before and behind a call that changes nothing. */
-    static String seen(BoundedCodes x) {
-        return lengthsOf(x, SYMBOLS) + "; " + Due.outcome(() -> codesOf(x, 8)) + "; check " + x.check()
-                + "; waiting " + x.waiting() + "; sum " + x.sum() + "; last " + Due.outcome(() -> x.last());
     }
 }
